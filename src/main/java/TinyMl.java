@@ -10,6 +10,7 @@ public final class TinyMl {
     private static final int MOST_TOKENS = 60;
     private static final int MOST_WORDS = 100;
     private static final int HIGHEST_TERM = 16;
+    private static final int UNBOUND = 1;
     private static final int NONE = -1;
 
     private static final int OPEN = 0;
@@ -83,12 +84,18 @@ public final class TinyMl {
         if (phaseNow != PARSED) {
             throw new IllegalStateException("a type is found for a parsed term");
         }
-        int answer = typer.find(reader.whole(), typeWords);
-        if (answer == 0) {
+        int whole = reader.whole();
+        if (!typer.allBound(whole, 0, 1)) {
+            return UNBOUND;
+        }
+        typer.clear();
+        int type = typer.typeOf(whole, 1);
+        if (typer.fault() == 0) {
+            typer.tell(type, typeWords);
             forgetRun();
             phaseNow = TYPED;
         }
-        return answer;
+        return typer.fault();
     }
 
     public int run(int fuel) throws IllegalStateException {
@@ -546,9 +553,9 @@ public final class TinyMl {
         private int[] rights = new int[FIRST_ROOM];
         private int[] marks = new int[FIRST_ROOM];
         private int[] notes = new int[FIRST_ROOM];
-        /** Pairs wait while unifying, and above them each part once: twice as many as types. */
-        private int[] waiting = new int[2 * FIRST_ROOM];
-        private int[] partners = new int[2 * FIRST_ROOM];
+        /** Pairs wait while unifying, and the parts that are marked above them: twice as many as types. */
+        private int[] waiting = new int[2 * FIRST_ROOM + 2];
+        private int[] partners = new int[2 * FIRST_ROOM + 2];
         private final Words scratch = new Words(MOST_BOUND_WORDS);
         private int count;
         private int open;
@@ -613,8 +620,8 @@ public final class TinyMl {
             rights = Arrays.copyOf(rights, room);
             marks = Arrays.copyOf(marks, room);
             notes = Arrays.copyOf(notes, room);
-            waiting = Arrays.copyOf(waiting, 2 * room);
-            partners = Arrays.copyOf(partners, 2 * room);
+            waiting = Arrays.copyOf(waiting, 2 * room + 2);
+            partners = Arrays.copyOf(partners, 2 * room + 2);
             return true;
         }
 
@@ -632,7 +639,17 @@ public final class TinyMl {
             await(s, t);
             for (int turn = 0; turn < MOST_TURNS && open > 0 && fault == 0; turn++) {
                 open--;
-                meet(known(at(waiting, open)), known(at(partners, open)));
+                int one = known(at(waiting, open));
+                int other = known(at(partners, open));
+                if (at(kinds, one) == VARIABLE) {
+                    become(one, other);
+                } else if (at(kinds, other) == VARIABLE) {
+                    become(other, one);
+                } else if (at(kinds, one) != at(kinds, other)) {
+                    fail(MISMATCH);
+                } else if (one != other) {
+                    awaitParts(one, other);
+                }
             }
             if (open > 0) {
                 fail(ROOM);
@@ -640,37 +657,23 @@ public final class TinyMl {
         }
 
         private void await(int type, int partner) {
-            if (open >= waiting.length) {
-                fail(ROOM);
-                return;
-            }
-            put(waiting, open, type);
-            put(partners, open, partner);
-            open++;
-        }
-
-        private void meet(int s, int t) {
-            if (s == t) {
-                return;
-            }
-            if (at(kinds, s) == VARIABLE) {
-                become(s, t);
-            } else if (at(kinds, t) == VARIABLE) {
-                become(t, s);
-            } else if (at(kinds, s) != at(kinds, t)) {
-                fail(MISMATCH);
-            } else {
-                awaitParts(s, t);
+            if (open >= 0 && open < waiting.length && open < partners.length) {
+                waiting[open] = type;
+                partners[open] = partner;
+                open++;
+            } else if (fault == 0) {
+                fault = ROOM;
             }
         }
 
-        /** What waits last is met first, so the second parts go in before the first ones. */
-        private void awaitParts(int s, int t) {
-            if (hasSecond(s)) {
-                await(at(rights, s), at(rights, t));
+        /** What waits last is taken first, so the second parts go in before the first ones. */
+        private void awaitParts(int type, int partner) {
+            int kind = at(kinds, type);
+            if (kind == FUNCTION || kind == PAIRED) {
+                await(at(rights, type), at(rights, partner));
             }
-            if (hasFirst(s)) {
-                await(at(lefts, s), at(lefts, t));
+            if (kind == FUNCTION || kind == PAIRED || kind == LIST) {
+                await(at(lefts, type), at(lefts, partner));
             }
         }
 
@@ -685,7 +688,12 @@ public final class TinyMl {
         }
 
         private void become(int variable, int type) {
-            if (occurs(variable, type)) {
+            if (variable == type) {
+                return;
+            }
+            beginMarks();
+            markAll(type, false);
+            if (marked(variable)) {
                 fail(OCCURS);
                 return;
             }
@@ -698,55 +706,30 @@ public final class TinyMl {
             put(lefts, variable, type);
         }
 
-        private boolean occurs(int variable, int type) {
-            beginMarks();
-            markAll(type, false);
-            return marked(variable);
-        }
-
         void beginMarks() {
             stamp++;
-        }
-
-        void mark(int type) {
-            markAll(type, false);
-        }
-
-        /** The variables that have no mark yet become general. */
-        void generalise(int type) {
-            markAll(type, true);
         }
 
         private boolean marked(int type) {
             return at(marks, type) == stamp;
         }
 
-        /** A part is marked when it is put to wait, so that none waits twice. */
-        private void markAll(int type, boolean general) {
+        /** Marks all parts of a type; if general, the variables that had no mark yet become general. */
+        void markAll(int type, boolean general) {
             int base = open;
-            markOne(type);
+            await(type, NONE);
             for (int turn = 0; turn < MOST_TURNS && open > base; turn++) {
                 open--;
-                int part = at(waiting, open);
-                if (general && at(kinds, part) == VARIABLE) {
-                    put(kinds, part, GENERAL);
-                }
-                if (hasFirst(part)) {
-                    markOne(at(lefts, part));
-                }
-                if (hasSecond(part)) {
-                    markOne(at(rights, part));
+                int part = known(at(waiting, open));
+                if (!marked(part)) {
+                    put(marks, part, stamp);
+                    if (general && at(kinds, part) == VARIABLE) {
+                        put(kinds, part, GENERAL);
+                    }
+                    awaitParts(part, NONE);
                 }
             }
             open = base;
-        }
-
-        private void markOne(int type) {
-            int part = known(type);
-            if (!marked(part)) {
-                put(marks, part, stamp);
-                await(part, NONE);
-            }
         }
 
         /** Writes the words of a type, as far as the row takes them. */
@@ -819,7 +802,7 @@ public final class TinyMl {
         /** Parts without general variables are not made anew. */
         private int copyNew(int part, int level) {
             if (at(kinds, part) == GENERAL) {
-                return variable();
+                return make(VARIABLE, NONE, NONE);
             }
             int oldLeft = at(lefts, part);
             int oldRight = at(rights, part);
@@ -832,7 +815,6 @@ public final class TinyMl {
 
     /** Finds the type of a term, from left to right. */
     static final class Typer {
-        private static final int UNBOUND = 1;
         /** Each term around another binds at most two names. */
         private static final int MOST_BOUND = 2 * HIGHEST_TERM + 2;
 
@@ -847,21 +829,21 @@ public final class TinyMl {
             this.terms = terms;
         }
 
-        int find(int term, Words words) {
-            if (!allBound(term, 0, 1)) {
-                return UNBOUND;
-            }
+        void clear() {
             types.clear();
             count = 0;
-            int type = typeOf(term, 1);
-            if (types.fault() == 0) {
-                types.tell(type, words);
-            }
+        }
+
+        int fault() {
             return types.fault();
         }
 
+        void tell(int type, Words words) {
+            types.tell(type, words);
+        }
+
         /** Bit n of around tells that name n is bound. */
-        private boolean allBound(int term, int around, int level) {
+        boolean allBound(int term, int around, int level) {
             if (level > HIGHEST_TERM) {
                 return false;
             }
@@ -898,7 +880,7 @@ public final class TinyMl {
             return name >= 0 ? 1 << name : 0;
         }
 
-        private int typeOf(int term, int level) {
+        int typeOf(int term, int level) {
             if (types.fault() != 0) {
                 return Types.INT;
             }
@@ -996,9 +978,9 @@ public final class TinyMl {
         private int typeOfRest(int term, int type, int level) {
             types.beginMarks();
             for (int i = 0; i < count; i++) {
-                types.mark(at(bound, i));
+                types.markAll(at(bound, i), false);
             }
-            types.generalise(type);
+            types.markAll(type, true);
             bind(terms.first(term), type, true);
             int rest = typeOfPart(term, 1, level);
             unbind(1);
