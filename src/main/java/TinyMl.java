@@ -92,7 +92,6 @@ public final class TinyMl {
         int type = typer.typeOf(whole, 1);
         if (typer.fault() == 0) {
             typer.tell(type, typeWords);
-            forgetRun();
             phaseNow = TYPED;
         }
         return typer.fault();
@@ -109,7 +108,8 @@ public final class TinyMl {
 
     public void reset() {
         tokenCount = 0;
-        forgetRun();
+        machine.clear();
+        done = false;
         phaseNow = READING;
     }
 
@@ -150,11 +150,6 @@ public final class TinyMl {
             default:
                 return NONE;
         }
-    }
-
-    private void forgetRun() {
-        machine.clear();
-        done = false;
     }
 
     private static boolean isToken(int t) {

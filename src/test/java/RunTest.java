@@ -107,6 +107,7 @@ public final class RunTest {
         }
         Check.same("run -1", ml.run(-1), 1);
         Check.same("fuel of run -1", ml.used(0), 0);
+        Check.same("nesting of run -1: depth is looked at before the fuel", ml.used(2), 1);
         Check.same("run of the least", ml.run(Integer.MIN_VALUE), 1);
         Check.same("run of the most", ml.run(Integer.MAX_VALUE), 0);
         TinyMl endless = Check.typed("REC a b a b ; a 1");
