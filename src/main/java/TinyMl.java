@@ -1127,7 +1127,7 @@ public final class TinyMl {
             return stop;
         }
 
-        /** A term that another takes the place of leaves this one's depth to it. */
+        /** A term that is worked out in place of another lies as deep as that one: hence a loop, no recursion. */
         private int work(int term, int scope, int depth) {
             int now = term;
             int where = scope;
