@@ -539,8 +539,10 @@ public final class TinyMl {
         private static final int MOST_BOUND_WORDS = 24;
         private static final int MOST_NESTED = 20;
         private static final int FIRST_ROOM = 256;
-        /** Far above what the types of a term of 60 tokens take. */
-        private static final int MOST_ROOM = 16384;
+        /** Far above what the types of a term of 60 tokens take: some 11000 are the most that were seen. */
+        private static final int MOST_ROOM = 65536;
+        /** What waits is at most about twice as long as types lie in one another: 64 are the most that were seen. */
+        private static final int MOST_WAITING = 1024;
         private static final int MOST_TURNS = 1000000;
 
         private int[] kinds = new int[FIRST_ROOM];
@@ -548,9 +550,9 @@ public final class TinyMl {
         private int[] rights = new int[FIRST_ROOM];
         private int[] marks = new int[FIRST_ROOM];
         private int[] notes = new int[FIRST_ROOM];
-        /** Pairs wait while unifying, and the parts that are marked above them: twice as many as types. */
-        private int[] waiting = new int[2 * FIRST_ROOM + 2];
-        private int[] partners = new int[2 * FIRST_ROOM + 2];
+        /** Pairs wait while unifying, and the parts that are marked above them. */
+        private final int[] waiting = new int[MOST_WAITING];
+        private final int[] partners = new int[MOST_WAITING];
         private final Words scratch = new Words(MOST_BOUND_WORDS);
         private int count;
         private int open;
@@ -615,8 +617,6 @@ public final class TinyMl {
             rights = Arrays.copyOf(rights, room);
             marks = Arrays.copyOf(marks, room);
             notes = Arrays.copyOf(notes, room);
-            waiting = Arrays.copyOf(waiting, 2 * room + 2);
-            partners = Arrays.copyOf(partners, 2 * room + 2);
             return true;
         }
 

@@ -2,6 +2,7 @@ import java.util.Arrays;
 import java.util.List;
 import java.util.NoSuchElementException;
 import java.util.function.IntSupplier;
+import java.util.stream.Stream;
 
 /** What the tests share: terms written as words, and answers compared with those that are due. */
 final class Check {
@@ -16,6 +17,8 @@ final class Check {
 
     private static int wrong = 0;
     private static int seen = 0;
+    private static int sentences = 0;
+    private static String sentence = "";
 
     private Check() {
     }
@@ -51,6 +54,16 @@ final class Check {
             text.append(text.length() == 0 ? "" : " ").append(word);
         }
         return text.toString();
+    }
+
+    static String times(int n, String text) {
+        return (text + " ").repeat(n);
+    }
+
+    /** The sentence of the document that the answers from here on are due by; it is told with a wrong one. */
+    static void sentence(String words) {
+        sentences++;
+        sentence = words;
     }
 
     /** A new object with these tokens; each must be taken. */
@@ -94,20 +107,41 @@ final class Check {
         return row;
     }
 
+    /** All that an object tells of itself without being changed. */
+    static int[] state(TinyMl ml) {
+        int[] told = {ml.phase(), ml.typeSize(), ml.outSize(), ml.used(0), ml.used(1), ml.used(2)};
+        return Stream.of(told, typeWords(ml), outWords(ml)).flatMapToInt(Arrays::stream).toArray();
+    }
+
     static void same(String what, int got, int due) {
         seen++;
         if (got != due) {
-            wrong++;
-            System.out.println(what + " answered " + got + ", due is " + due);
+            tell(what + " answered " + got + ", due is " + due);
         }
     }
 
     static void same(String what, int[] got, int... due) {
         seen++;
         if (!Arrays.equals(got, due)) {
-            wrong++;
-            System.out.println(what + " answered " + Arrays.toString(got) + ", due is " + Arrays.toString(due));
+            tell(what + " answered " + Arrays.toString(got) + ", due is " + Arrays.toString(due));
         }
+    }
+
+    private static void tell(String fault) {
+        wrong++;
+        System.out.println(sentence.isEmpty() ? fault : fault + " (" + sentence + ")");
+    }
+
+    static void same(String what, boolean got, boolean due) {
+        same(what, got ? 1 : 0, due ? 1 : 0);
+    }
+
+    static void throwsState(String what, IntSupplier call) {
+        same(what, answer(call), STATE);
+    }
+
+    static void throwsMissing(String what, IntSupplier call) {
+        same(what, answer(call), MISSING);
     }
 
     /** The answer of a call, or which exception it threw. */
@@ -124,7 +158,8 @@ final class Check {
     }
 
     static void end(String test) {
-        System.out.println(test + ": " + (seen - wrong) + " of " + seen + " answers as due");
+        String by = sentences == 0 ? "" : " by " + sentences + " sentences";
+        System.out.println(test + ": " + (seen - wrong) + " of " + seen + " answers as due" + by);
         System.exit(wrong == 0 ? 0 : 1);
     }
 }

@@ -1,4 +1,4 @@
-/** Promises 4, 8 and 9: infer, typeSize and typeAt. */
+/** Promises 4, 8 and 9: the types that terms have, and the faults of those that have none. */
 public final class InferTest {
     private static final int INT = 0, BOOL = 1, FUN = 2, PAIR = 3, LIST = 4;
 
@@ -9,11 +9,6 @@ public final class InferTest {
         unbound();
         mismatch();
         occurs();
-        roomOfVariables();
-        roomOfNames();
-        whatComesFirst();
-        states();
-        words();
         Check.end("InferTest");
     }
 
@@ -126,92 +121,5 @@ public final class InferTest {
         for (String term : terms) {
             fault(term, 3);
         }
-    }
-
-    /** c has 15 words here. */
-    private static final String PAIRS = "LET a ( 1 , 1 ) ; LET b ( a , a ) ; LET c ( b , b ) ; ";
-
-    private static void roomOfVariables() {
-        type(PAIRS + "( FUN d 1 ) ( c , ( a , ( 1 , NIL ) ) )", INT);
-        fault(PAIRS + "( FUN d 1 ) ( c , ( a , ( NIL , NIL ) ) )", 4);
-        type(PAIRS + "FUN d IF TRUE ; d ; ( c , b )",
-                FUN, PAIR, PAIR, PAIR, PAIR, 0, 0, PAIR, 0, 0, PAIR, PAIR, 0, 0, PAIR, 0, 0, PAIR, PAIR, 0, 0, PAIR, 0, 0,
-                PAIR, PAIR, PAIR, PAIR, 0, 0, PAIR, 0, 0, PAIR, PAIR, 0, 0, PAIR, 0, 0, PAIR, PAIR, 0, 0, PAIR, 0, 0);
-        fault(PAIRS + "FUN d IF TRUE ; ( c , ( b , 1 ) ) ; d", 4);
-        fault(PAIRS + "( c , c ) :: NIL", 4);
-        fault("LET a FUN b ( b , b ) ; a ( a ( a ( a ( a 1 ) ) ) )", 4);
-        Check.typed("LET a FUN b ( b , b ) ; a ( a ( a 1 ) )");
-        fault("FUN j LET a ( j , j ) ; LET b ( a , a ) ; LET c ( b , b ) ; LET d ( c , c ) ; IF TRUE ; j ; d", 3);
-        fault("FUN i FUN j LET a ( j , j ) ; LET b ( a , a ) ; LET c ( b , b ) ; LET d ( c , c ) ; IF TRUE ; i ; d", 4);
-    }
-
-    /** The last name has 20 parts in one another when the innermost is 1, and 21 when it is NIL. */
-    private static String tall(String innermost, String end) {
-        return "LET a " + "FUN b ".repeat(6) + innermost + " ; LET c " + "FUN b ".repeat(5) + "a ; LET d "
-                + "FUN b ".repeat(4) + "c ; LET e " + "FUN b ".repeat(3) + "d ; LET f FUN b e ; " + end;
-    }
-
-    private static void roomOfNames() {
-        Check.same("typeSize of 20 in one another", Check.typed(tall("1", "f")).typeSize(), 39);
-        fault(tall("NIL", "f"), 4);
-        type(tall("NIL", "1"), INT);
-        Check.same("typeSize of what is bound by none", Check.typed("LET a ( 1 , 2 ) ; LET b ( a , a ) ; LET c ( b , b ) ;"
-                + " LET d ( c , c ) ; LET e ( d , d ) ; e").typeSize(), 63);
-    }
-
-    private static void whatComesFirst() {
-        fault("( 1 + TRUE , FUN a a a )", 2);
-        fault("( FUN a a a , 1 + TRUE )", 3);
-        fault("IF 1 ; FUN a a a ; 1", 2);
-        fault("IF TRUE ; FUN a a a ; 1", 3);
-        fault("TRUE + ( FUN a a a )", 2);
-        fault("1 + ( FUN a a a )", 3);
-        fault("( FUN a a a ) < TRUE", 3);
-        fault("1 ( FUN a a a )", 3);
-        fault("MATCH 1 ; FUN a a a ; b c 1", 2);
-        fault("MATCH NIL ; FUN a a a ; b c b + TRUE", 3);
-        fault("1 :: ( FUN a a a )", 3);
-        fault("FST ( 1 + TRUE , FUN a a a )", 2);
-        fault("LET a 1 + TRUE ; FUN a a a", 2);
-        fault("REC a b FUN c c c ; 1 + TRUE", 3);
-        fault(PAIRS + "( ( c , c ) :: NIL , 1 + TRUE )", 4);
-        fault(PAIRS + "( 1 + TRUE , ( c , c ) :: NIL )", 2);
-        fault("FUN a FUN b IF TRUE ; ( ( a , 1 ) , b ) ; ( ( b , TRUE ) , ( b , b ) )", 2);
-        fault("FUN a IF TRUE ; ( a , 1 ) ; ( ( a , a ) , TRUE )", 3);
-    }
-
-    private static void states() {
-        TinyMl reading = Check.reading("1");
-        Check.same("infer when reading", Check.answer(reading::infer), Check.STATE);
-        Check.same("typeSize when reading", reading.typeSize(), -1);
-        TinyMl parsed = Check.parsed("1");
-        Check.same("typeSize when parsed", parsed.typeSize(), -1);
-        Check.same("typeAt when parsed", Check.answer(() -> parsed.typeAt(0)), Check.MISSING);
-        TinyMl typed = Check.typed("1");
-        Check.same("infer when typed", Check.answer(typed::infer), Check.STATE);
-        Check.same("phase behind that", typed.phase(), 2);
-        typed.reset();
-        Check.same("typeSize behind reset", typed.typeSize(), -1);
-        Check.same("typeAt behind reset", Check.answer(() -> typed.typeAt(0)), Check.MISSING);
-    }
-
-    private static void words() {
-        TinyMl two = Check.typed("1 :: NIL");
-        Check.same("word 0", two.typeAt(0), LIST);
-        Check.same("word 1", two.typeAt(1), INT);
-        for (int i : new int[] {2, 100, -1, Integer.MAX_VALUE, Integer.MIN_VALUE}) {
-            Check.same("word " + i, Check.answer(() -> two.typeAt(i)), Check.MISSING);
-        }
-        String chain = PAIRS + "LET d ( c , c ) ; LET e ( d , d ) ; ( ( e , d ) , ";
-        TinyMl hundred = Check.typed(chain + "( 1 , NIL ) )");
-        Check.same("typeSize of 100 words", hundred.typeSize(), 100);
-        Check.same("word 99", hundred.typeAt(99), 10);
-        Check.same("word 98", hundred.typeAt(98), LIST);
-        Check.same("word 100", Check.answer(() -> hundred.typeAt(100)), Check.MISSING);
-        TinyMl more = Check.typed(chain + "( NIL , NIL ) )");
-        Check.same("typeSize of 101 words", more.typeSize(), -2);
-        Check.same("word 0 of 101", Check.answer(() -> more.typeAt(0)), Check.MISSING);
-        Check.same("word 100 of 101", Check.answer(() -> more.typeAt(100)), Check.MISSING);
-        Check.same("phase of 101 words", more.phase(), 2);
     }
 }

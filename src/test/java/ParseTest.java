@@ -1,12 +1,8 @@
-/** Promise 3: parse. */
+/** Promise 3: which rows of tokens are terms, and what belongs together in them. */
 public final class ParseTest {
     public static void main(String[] args) {
         terms();
         faults();
-        depth();
-        depthAgainstFaults();
-        height();
-        stateAfterwards();
         order();
         Check.end("ParseTest");
     }
@@ -15,10 +11,6 @@ public final class ParseTest {
         TinyMl ml = Check.reading(text);
         Check.same("parse of " + text, ml.parse(), due);
         Check.same("phase behind parse of " + text, ml.phase(), due == 0 ? 1 : 0);
-    }
-
-    private static String times(int n, String text) {
-        return (text + " ").repeat(n);
     }
 
     private static void terms() {
@@ -79,83 +71,6 @@ public final class ParseTest {
         parse("MATCH 1 ; 2 ; 3", 6);
         parse("MATCH 1 ; 2 ; a 3", 7);
         parse("MATCH 1 ; 2 ; a b", 8);
-    }
-
-    private static void depth() {
-        parse(times(7, "(") + "1 " + times(7, ")"), 0);
-        parse(times(8, "(") + "1 " + times(8, ")"), -1);
-        parse(times(6, "(") + "( 1 , 2 ) " + times(6, ")"), 0);
-        parse(times(7, "(") + "( 1 , 2 ) " + times(7, ")"), -1);
-        parse(times(7, "FST") + "1", 0);
-        parse(times(8, "SND") + "1", -1);
-        parse(times(6, "FST") + "( 1 )", 0);
-        parse(times(7, "FST") + "( 1 )", -1);
-        parse(times(7, "1 ::") + "NIL", 0);
-        parse(times(8, "1 ::") + "NIL", -1);
-        parse(times(6, "1 ::") + "( 1 )", 0);
-        parse(times(7, "1 ::") + "( 1 )", -1);
-        parse(times(7, "FUN a") + "a", 0);
-        parse(times(8, "FUN a") + "a", -1);
-        parse(times(7, "LET a 1 ;") + "a", 0);
-        parse(times(8, "LET a 1 ;") + "a", -1);
-        parse(times(7, "LET a") + "1 " + times(7, "; a"), 0);
-        parse(times(7, "REC a b 1 ;") + "a", 0);
-        parse(times(8, "REC a b 1 ;") + "a", -1);
-        parse(times(7, "IF 1 ; 1 ;") + "1", 0);
-        parse(times(8, "IF 1 ; 1 ;") + "1", -1);
-        parse(times(7, "MATCH 1 ; 1 ; a b") + "1", 0);
-        parse(times(7, "MATCH 1 ; 1 ; a b") + "MATCH 1", -1);
-        parse(times(7, "(") + "1 + 2 * 3 < 4 " + times(7, ")"), 0);
-        parse("( ( ( ( ( ( ( 1 ) ) ) ) ) ) ) ( ( ( ( ( ( ( 1 ) ) ) ) ) ) )", 0);
-    }
-
-    /** Too deep as soon as what must come next lies there; a name lies no deeper than its FUN, LET or REC. */
-    private static void depthAgainstFaults() {
-        parse(times(8, "("), -1);
-        parse(times(8, "(") + ")", -1);
-        parse(times(8, "FST"), -1);
-        parse(times(8, "FST") + ";", -1);
-        parse(times(8, "1 ::"), -1);
-        parse(times(8, "1 ::") + "+", -1);
-        parse(times(7, "FUN a") + "IF", -1);
-        parse(times(7, "FUN a") + "MATCH )", -1);
-        parse(times(7, "FUN a") + "FUN", 16);
-        parse(times(7, "FUN a") + "FUN 1", 16);
-        parse(times(7, "FUN a") + "FUN a", -1);
-        parse(times(7, "FUN a") + "LET a )", -1);
-        parse(times(7, "FUN a") + "REC a 1", 17);
-        parse(times(7, "FUN a") + "REC a a )", -1);
-        parse(times(7, "FUN a") + ")", 15);
-        parse("1 ) " + times(9, "("), 2);
-        parse("( 1 ; " + times(9, "("), 3);
-    }
-
-    private static void height() {
-        parse("1 " + times(15, "+ 1"), 0);
-        parse("1 " + times(16, "+ 1"), -1);
-        parse("1 " + times(15, "* 1"), 0);
-        parse("1 " + times(16, "* 1"), -1);
-        parse(times(16, "a"), 0);
-        parse(times(17, "a"), -1);
-        parse(times(60, "a"), -1);
-        parse("( ( ( ( 1 ) ) ) ) " + times(15, "+ 1"), 0);
-        parse("FUN a " + times(15, "a"), 0);
-        parse("FUN a " + times(16, "a"), -1);
-        parse("1 " + times(16, "+ 1") + ")", 34);
-        parse("1 " + times(16, "+ 1") + "+", 35);
-    }
-
-    private static void stateAfterwards() {
-        TinyMl deep = Check.reading(times(17, "a"));
-        Check.same("parse of what is too high", deep.parse(), -1);
-        Check.same("the same again", deep.parse(), -1);
-        Check.same("token behind it", deep.token(14) ? 1 : 0, 1);
-        Check.same("parse of that", deep.parse(), 19);
-        TinyMl parsed = Check.parsed("1");
-        Check.same("parse when parsed", Check.answer(parsed::parse), Check.STATE);
-        TinyMl typed = Check.typed("1");
-        Check.same("parse when typed", Check.answer(typed::parse), Check.STATE);
-        Check.same("phase behind that", typed.phase(), 2);
     }
 
     /** What belongs together shows in the value. */

@@ -1,4 +1,4 @@
-/** Promises 5, 10, 11 and 12: run, outSize, outAt and used. */
+/** Promises 5 and 10 to 12: the values that terms have, and what it takes to work them out. */
 public final class RunTest {
     public static void main(String[] args) {
         values();
@@ -6,12 +6,7 @@ public final class RunTest {
         numbers();
         fuel();
         fuelThatRunsOut();
-        cells();
-        deep();
         inPlace();
-        states();
-        words();
-        usedWhat();
         Check.end("RunTest");
     }
 
@@ -119,42 +114,6 @@ public final class RunTest {
         }
     }
 
-    private static final String FOUR_CELLS_EACH =
-            "REC a b IF b < 1 ; 0 ; a ( b - SND ( ( FUN c c , FUN c c ) , 1 ) ) ; a 24 :: ";
-
-    private static void cells() {
-        used(FOUR_CELLS_EACH + "1 :: 1 :: NIL", 351, 100, 7);
-        TinyMl more = Check.typed(FOUR_CELLS_EACH + "1 :: 1 :: 1 :: NIL");
-        Check.same("run with 101 cells", more.run(400), 3);
-        Check.same("cells of that", more.used(1), 100);
-        Check.same("fuel of that", more.used(0), 353);
-        Check.same("outSize of that", more.outSize(), -1);
-        Check.same("the same with as much fuel as it took", more.run(353), 3);
-        Check.same("the same with less", more.run(352), 1);
-        TinyMl functions = Check.typed("REC a b a ( FUN c b c ) ; a ( FUN c c )");
-        Check.same("run of endless functions", functions.run(400), 3);
-        Check.same("cells of endless functions", functions.used(1), 100);
-        TinyMl recursive = Check.typed("REC a b REC c d d ; IF TRUE ; a ( FUN e e ) ; 1 ; a ( FUN e e )");
-        Check.same("run of endless REC", recursive.run(400), 3);
-        Check.same("cells of endless REC", recursive.used(1), 100);
-    }
-
-    private static void deep() {
-        String count = "REC a b IF b < 1 ; 0 ; 1 + a ( b - 1 ) ; a ";
-        TinyMl sixteen = Check.typed(count + "13");
-        Check.same("run of 16 in one another", sixteen.run(400), 0);
-        Check.same("nesting of 16 in one another", sixteen.used(2), 16);
-        TinyMl more = Check.typed(count + "14");
-        Check.same("run of 17 in one another", more.run(400), 2);
-        Check.same("nesting of 17 in one another", more.used(2), 16);
-        Check.same("outSize of 17 in one another", more.outSize(), -1);
-        int spent = more.used(0);
-        Check.same("deep goes before fuel", more.run(spent), 2);
-        Check.same("fuel of that", more.used(0), spent);
-        Check.same("fuel that runs out before", more.run(spent - 1), 1);
-        used("1 + 1 + 1 + 1 + 1 + 1 + 1 + 1 + 1 + 1 + 1 + 1 + 1 + 1 + 1 + 1", 31, 0, 16);
-    }
-
     /** The body of a call, u of LET and REC, and branches lie where their term lies. */
     private static void inPlace() {
         used("LET a 1 ; LET b 1 ; LET c 1 ; LET d 1 ; a", 9, 0, 2);
@@ -164,63 +123,5 @@ public final class RunTest {
         used("LET a FUN b b + b ; a 1", 8, 1, 2);
         used("LET a 1 + 1 ; a", 5, 0, 3);
         used("REC a b IF b < 1 ; 0 ; a ( b - 1 ) ; a 9", 90, 1, 3);
-    }
-
-    private static void states() {
-        TinyMl reading = Check.reading("1");
-        Check.same("run when reading", Check.answer(() -> reading.run(1)), Check.STATE);
-        TinyMl parsed = Check.parsed("1");
-        Check.same("run when parsed", Check.answer(() -> parsed.run(1)), Check.STATE);
-        TinyMl faulty = Check.parsed("1 + TRUE");
-        Check.same("infer of 1 + TRUE", faulty.infer(), 2);
-        Check.same("run of 1 + TRUE", Check.answer(() -> faulty.run(1)), Check.STATE);
-        TinyMl typed = Check.typed("1 + 2");
-        Check.same("outSize before a run", typed.outSize(), -1);
-        Check.same("outAt before a run", Check.answer(() -> typed.outAt(0)), Check.MISSING);
-        Check.same("run", typed.run(3), 0);
-        Check.same("phase behind a run", typed.phase(), 2);
-        Check.same("outSize behind a run", typed.outSize(), 2);
-        Check.same("run with too little", typed.run(2), 1);
-        Check.same("outSize behind that", typed.outSize(), -1);
-        Check.same("outAt behind that", Check.answer(() -> typed.outAt(0)), Check.MISSING);
-        Check.same("run again", typed.run(400), 0);
-        Check.same("value of that", Check.outWords(typed), 0, 3);
-    }
-
-    private static void words() {
-        TinyMl two = Check.typed("5");
-        two.run(1);
-        Check.same("word 0", two.outAt(0), 0);
-        Check.same("word 1", two.outAt(1), 5);
-        for (int i : new int[] {2, 100, -1, Integer.MAX_VALUE, Integer.MIN_VALUE}) {
-            Check.same("word " + i, Check.answer(() -> two.outAt(i)), Check.MISSING);
-        }
-        String chain = "LET a ( 1 , 1 ) ; LET b ( a , a ) ; LET c ( b , b ) ; LET d ( c , c ) ; ( ( d , d ) , ";
-        TinyMl hundred = Check.typed(chain + "( NIL , 9 ) )");
-        Check.same("run of 100 words", hundred.run(400), 0);
-        Check.same("outSize of 100 words", hundred.outSize(), 100);
-        Check.same("word 99", hundred.outAt(99), 9);
-        Check.same("word 100", Check.answer(() -> hundred.outAt(100)), Check.MISSING);
-        TinyMl more = Check.typed(chain + "( 9 , 9 ) )");
-        Check.same("run of 101 words", more.run(400), 0);
-        Check.same("outSize of 101 words", more.outSize(), -2);
-        Check.same("word 0 of 101", Check.answer(() -> more.outAt(0)), Check.MISSING);
-        Check.same("word 99 of 101", Check.answer(() -> more.outAt(99)), Check.MISSING);
-    }
-
-    private static void usedWhat() {
-        TinyMl ml = Check.typed("( 1 , 2 )");
-        for (int what = 0; what < 3; what++) {
-            Check.same("used " + what + " before a run", ml.used(what), 0);
-        }
-        ml.run(400);
-        for (int what : new int[] {-1, 3, 5, Integer.MAX_VALUE, Integer.MIN_VALUE}) {
-            Check.same("used " + what, ml.used(what), -1);
-            Check.same("used " + what + " of a new object", new TinyMl().used(what), -1);
-        }
-        Check.same("fuel", ml.used(0), 3);
-        ml.run(2);
-        Check.same("fuel of the latest run", ml.used(0), 2);
-        Check.same("cells of the latest run", ml.used(1), 0);
     }
 }
