@@ -184,19 +184,24 @@ public final class PhaseBoundsTest {
     }
 
     private static void manyInfers() {
-        Check.sentence(CALLS + ": infers that find no room");
-        int[] row = Check.tokens(ROOM);
-        TinyMl ml = Check.parsed(ROOM);
-        for (int call = row.length + 2; call <= 512; call++) {
-            Check.same("infer, call " + call, ml.infer(), 4);
+        String many = "REC a d d NIL NIL NIL NIL NIL 0 ; REC b d d a a a a a a a ; LET c ( b , b ) ; LET d ( c , c ) ; "
+                + "LET e ( d , d ) ; LET f ( e , e ) ; f :: f f";
+        manyInfers(ROOM, 4);
+        manyInfers(many, 2);
+    }
+
+    private static void manyInfers(String text, int due) {
+        Check.sentence(CALLS + ": infers that answer " + due);
+        TinyMl ml = Check.parsed(text);
+        for (int call = Check.tokens(text).length + 2; call <= 512; call++) {
+            Check.same("infer, call " + call, ml.infer(), due);
         }
     }
 
     private static void manyRuns() {
         Check.sentence(CALLS + ": runs");
-        int[] row = Check.tokens(DEAR);
         TinyMl ml = Check.typed(DEAR);
-        for (int call = row.length + 3; call <= 511; call++) {
+        for (int call = Check.tokens(DEAR).length + 3; call <= 511; call++) {
             Check.same("run, call " + call, ml.run(400), 3);
         }
         Check.same("cells, call 512", ml.used(1), 100);

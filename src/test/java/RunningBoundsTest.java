@@ -290,6 +290,12 @@ public final class RunningBoundsTest {
         used("that", ml, fuel, 1, 16);
         Check.same("run with less", ml.run(fuel - 1), FUEL);
         Check.same("fuel of that", ml.used(0), fuel - 1);
+        Check.sentence("VALUES: what lies too deep takes neither fuel nor a cell");
+        TinyMl function = run(FOURTEENTH.replace("@", "FST ( 1 , FUN c 1 )"), 400, DONE);
+        Check.same("cells of a function that is the 16th", function.used(1), 3);
+        TinyMl deeper = run(FOURTEENTH.replace("@", "FST ( 1 , ( FUN c 1 , 1 ) )"), 400, DEEP);
+        Check.same("cells of a function that would be the 17th", deeper.used(1), 1);
+        Check.same("fuel of what lies deeper", deeper.used(0), function.used(0));
     }
 
     // ---- which terms are worked out, and in which order --------------------------------------------------------
