@@ -13,6 +13,27 @@ final class Maker {
     private record Bound(int name, Goal goal) {
     }
 
+    /** Terms that lie on a bound of the document, or 1 beyond it. */
+    private static final String[] EDGES = {
+        "IF FALSE ; 1" + " + 1".repeat(14) + " ; 1" + " + 1".repeat(13),
+        "1" + " + 1".repeat(16),
+        "( ( ( ( ( ( ( 1 , 2 ) ) ) ) ) ) )",
+        "FUN a FUN b FUN c FUN d FUN e FUN f FUN g a",
+        "LET b ( ( 1 , 1 ) , ( 1 , 1 ) ) ; LET c ( b , b ) ; FUN d IF TRUE ; d ; ( c , b :: NIL )",
+        "LET b ( ( 1 , 1 ) , ( 1 , 1 ) ) ; LET c ( b , b ) ; ( FUN d 1 ) ( c , ( b , 1 ) )",
+        "LET d FUN b ( ( b :: NIL ) :: NIL ) :: NIL ; LET e FUN b d ( d ( d ( d ( d b ) ) ) ) ; LET f d ( e NIL ) ; f",
+        "LET d FUN b ( ( ( b :: NIL ) :: NIL ) :: NIL ) :: NIL ; LET e FUN b d ( d ( d ( d b ) ) ) ; "
+            + "FUN f ( IF TRUE ; f ; d ( e 1 ) , f )",
+        "REC a d d NIL NIL NIL NIL NIL 0 ; REC b d d a a a a a a a ; LET c ( b , b ) ; LET d ( c , c ) ; "
+            + "IF TRUE ; d ; d",
+        "LET b ( ( 1 , 1 ) , ( 1 , 1 ) ) ; LET c ( b , b ) ; LET d ( c , c ) ; LET e ( d , d ) ; "
+            + "( ( e , d ) , ( 1 , NIL ) )",
+        "LET a ( 1 , 1 ) ; LET b ( a , a ) ; LET c ( b , b ) ; LET d ( c , c ) ; ( ( d , d ) , ( NIL , 9 ) )",
+        "REC a b IF b < 1 ; 0 ; a ( b - 1 ) ; a 43 + 1 + 1",
+        "REC a b IF b < 1 ; 0 ; a ( b - SND ( ( FUN c c , FUN c c ) , 1 ) ) ; LET d a 24 ; 1 :: 1 :: 1 :: NIL",
+        "REC a b IF b < 1 ; FST ( 1 , 1 ) ; 1 + a ( b - 1 ) ; a 13",
+    };
+
     private final Random random;
     private final List<Integer> out = new ArrayList<>();
 
@@ -40,9 +61,12 @@ final class Maker {
 
     int[] next() {
         out.clear();
-        switch (below(10)) {
+        switch (below(11)) {
             case 0:
                 noise();
+                return cut();
+            case 10:
+                near();
                 return cut();
             case 1:
             case 2:
@@ -67,6 +91,14 @@ final class Maker {
         int length = below(12);
         for (int i = 0; i < length; i++) {
             put(anyToken());
+        }
+    }
+
+    /** A term on a bound with up to three faults in it. */
+    private void near() {
+        put(Check.tokens(EDGES[below(EDGES.length)]));
+        for (int faults = below(4); faults > 0 && !out.isEmpty(); faults--) {
+            mar();
         }
     }
 
