@@ -22,6 +22,7 @@ public final class RunningBoundsTest {
         wordsOfValues();
         runOnlyWhenTyped();
         sizeOfTheValue();
+        partsOfOneWord();
         moreThanHundredWords();
         wordsOfTheValue();
         latestRun();
@@ -401,6 +402,27 @@ public final class RunningBoundsTest {
         Check.same("outSize of 101", run(HUNDRED.replace("@", "( 9 , 9 )"), 400, DONE).outSize(), -2);
         Check.same("outSize of 102", run(HUNDRED.replace("@", "( 9 , NIL :: NIL )"), 400, DONE).outSize(), -2);
         Check.same("outSize of many", run(HUNDRED.replace("@", "( ( d , d ) , ( d , d ) )"), 400, DONE).outSize(), -2);
+    }
+
+    /** The value has 96 words before @ is put in, and none of its parts has more than one of its own. */
+    private static final String ONE_EACH = "LET a ( X , X ) ; LET b ( a , a ) ; LET c ( b , b ) ; LET d ( c , c ) ; "
+            + "( ( d , d ) , ( d , @ ) )";
+
+    private static void partsOfOneWord() {
+        for (String leaf : new String[] {"NIL", "( FUN e e )"}) {
+            Check.sentence("10, 11: 100 words and more, all in parts of one word, as " + leaf);
+            String form = ONE_EACH.replace("X", leaf);
+            TinyMl below = run(form.replace("@", "a"), 400, DONE);
+            Check.same("outSize of 99", below.outSize(), 99);
+            Check.same("word 98 of 99", below.outAt(98), leaf.equals("NIL") ? 4 : 2);
+            noWords(below, 99, 100, -1);
+            Check.same("outSize of 100", run(form.replace("@", "( NIL , TRUE )"), 400, DONE).outSize(), 100);
+            for (String more : new String[] {"( NIL , a )", "( a , TRUE )", "b", "c", "d"}) {
+                TinyMl above = run(form.replace("@", more), 400, DONE);
+                Check.same("outSize with " + more, above.outSize(), -2);
+                noWords(above, 0, 1, 98, 99, 100, 101, -1);
+            }
+        }
     }
 
     private static void wordsOfTheValue() {

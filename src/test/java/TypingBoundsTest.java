@@ -26,6 +26,8 @@ public final class TypingBoundsTest {
         onlyGeneralTypesHaveARoom();
         onlyNamesThatStandThere();
         whatIsGeneral();
+        aroundByAnyBinder();
+        generalInPart();
         manyTypes();
         variablesInTheirOrder();
         sizeOfTheType();
@@ -162,6 +164,20 @@ public final class TypingBoundsTest {
         Check.sentence("TYPES: REC: r and t's type are unified, then u's type");
         infer("REC a b a ; 1 + TRUE", OCCURS);
         infer("REC a b 1 + TRUE ; " + occurs, MISMATCH);
+        Check.sentence("TYPES: LET: t's type; then u's");
+        infer("LET a 1 + TRUE ; " + occurs, MISMATCH);
+        infer("LET a " + occurs + " ; 1 + TRUE", OCCURS);
+        infer("LET a 1 + TRUE ; 1", MISMATCH);
+        infer("LET a 1 ; a + TRUE", MISMATCH);
+        Check.sentence("TYPES: FUN x t, FST t, SND t: t's type, though it is never worked out");
+        infer("FUN a 1 + TRUE", MISMATCH);
+        infer("FUN a " + occurs, OCCURS);
+        for (String half : new String[] {"FST", "SND"}) {
+            infer(half + " ( 1 + TRUE )", MISMATCH);
+            infer(half + " " + occurs, OCCURS);
+            infer(half + " ( 1 , " + occurs + " )", OCCURS);
+            infer(half + " ( " + occurs + " , 1 )", OCCURS);
+        }
         Check.sentence("UNIFYING: first their first parts, then their second ones");
         infer("FUN a IF TRUE ; ( a , 1 ) ; ( ( a , a ) , TRUE )", OCCURS);
         infer("FUN a IF TRUE ; ( 1 , a ) ; ( TRUE , ( a , a ) )", MISMATCH);
@@ -322,6 +338,38 @@ public final class TypingBoundsTest {
         infer("FUN a MATCH a ; 1 ; c d LET b c ; FST ( 1 , ( b 1 , b TRUE ) )", MISMATCH);
         type("FUN a LET b ( a , NIL ) ; ( 1 :: SND b , TRUE :: SND b )", FUN, 10, PAIR, LIST, INT, LIST, BOOL);
         type("LET a NIL ; LET b a ; ( 1 :: b , TRUE :: b )", PAIR, LIST, INT, LIST, BOOL);
+    }
+
+    /** The variable of b's type occurs in the type of one name around it, and in no other's. */
+    private static void aroundByAnyBinder() {
+        Check.sentence("TYPES: LET: the names that are bound around it by REC");
+        infer("REC a c LET b c ; ( b 1 , b TRUE ) ; 1", MISMATCH);
+        infer("REC a c FUN c LET b a ; ( b 1 , b TRUE ) ; 1", MISMATCH);
+        infer("REC a a LET b a ; ( b 1 , b TRUE ) ; 1", MISMATCH);
+        Check.sentence("TYPES: LET: the names that are bound around it by MATCH");
+        infer("MATCH NIL ; 1 ; c d LET b c ; FST ( 1 , ( b 1 , b TRUE ) )", MISMATCH);
+        infer("MATCH NIL ; 1 ; c d LET b d ; FST ( 1 , ( 1 :: b , TRUE :: b ) )", MISMATCH);
+        infer("MATCH NIL ; 1 ; c c LET b c ; FST ( 1 , ( 1 :: b , TRUE :: b ) )", MISMATCH);
+        Check.sentence("TYPES: LET: the names that are bound around it by LET");
+        infer("FUN a LET a a ; LET b a ; ( b 1 , b TRUE )", MISMATCH);
+        infer("FUN a LET c ( a , a ) ; LET b FST c ; ( b 1 , b TRUE )", MISMATCH);
+        Check.sentence("TYPES: LET: the names around it, not those that are bound in t");
+        type("LET a FUN b LET c b ; c ; ( a 1 , a TRUE )", PAIR, INT, BOOL);
+        type("LET a ( REC b c c ; b ) ; ( a 1 , a TRUE )", PAIR, INT, BOOL);
+        type("LET a FUN b MATCH b ; NIL ; c d d ; ( a ( 1 :: NIL ) , a ( TRUE :: NIL ) )",
+                PAIR, LIST, INT, LIST, BOOL);
+    }
+
+    private static void generalInPart() {
+        String[] forms = {"LET b FUN c @ ; ( b 1 , b TRUE )", "REC b c @ ; ( b 1 , b TRUE )"};
+        for (String form : forms) {
+            Check.sentence("TYPES: some variables are general and others are not, as in FUN a " + form);
+            type("FUN a " + form.replace("@", "a"), FUN, 10, PAIR, 10, 10);
+            type("FUN a " + form.replace("@", "c"), FUN, 10, PAIR, INT, BOOL);
+            type("FUN a " + form.replace("@", "( a , c )"), FUN, 10, PAIR, PAIR, 10, INT, PAIR, 10, BOOL);
+            infer("FUN a " + form.replace("@", "IF TRUE ; a ; c"), MISMATCH);
+            infer("FUN a " + form.replace("@", "a c"), MISMATCH);
+        }
     }
 
     private static void manyTypes() {
