@@ -224,6 +224,15 @@ public final class RunningBoundsTest {
             Check.same("run with less", ml.run(fuel - 1), FUEL);
             Check.same("cells of that", ml.used(1), 100);
         }
+        String hundred = CELLS_97.replace("@", "LET d 1 :: 1 :: 1 :: NIL ; @");
+        int leaf = run(hundred.replace("@", "1"), 400, DONE).used(0);
+        Check.same("fuel of a function that is the 101st", run(hundred.replace("@", "FUN c c"), 400, CELLS).used(0), leaf);
+        for (String two : new String[] {"( 1 , 1 )", "1 :: NIL"}) {
+            TinyMl ml = run(hundred.replace("@", two), 400, CELLS);
+            Check.same("fuel when the parts of " + two + " are there", ml.used(0), leaf + 2);
+            Check.same("run when one part is not", ml.run(leaf + 1), FUEL);
+            Check.same("run when no part is", ml.run(leaf), FUEL);
+        }
         TinyMl pair = Check.typed("( 1 , 1 )");
         Check.same("run of a pair with its fuel alone", pair.run(2), FUEL);
         Check.same("cells of a pair whose parts are not there", pair.used(1), 0);

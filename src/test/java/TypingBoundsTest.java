@@ -155,6 +155,8 @@ public final class TypingBoundsTest {
         Check.sentence("TYPES: IF: t's and u's types, which are unified then");
         infer("IF TRUE ; 1 ; FST ( TRUE , " + occurs + " )", OCCURS);
         infer("IF TRUE ; 1 ; TRUE", MISMATCH);
+        infer("IF TRUE ; 1 + TRUE ; " + occurs, MISMATCH);
+        infer("IF TRUE ; " + occurs + " ; 1 + TRUE", OCCURS);
         Check.sentence("TYPES: a :: l: a's type, l's type, then they are unified");
         infer("1 :: FST ( TRUE , " + occurs + " )", OCCURS);
         infer("( 1 + TRUE ) :: " + occurs, MISMATCH);
@@ -227,6 +229,13 @@ public final class TypingBoundsTest {
         words("( FUN d @ ) 1");
         words("FST ( @ , 1 )");
         words("SND ( 1 , @ )");
+        Check.sentence("UNIFYING: more than 24 words: FUN and LIST, and the variable of a call, count with the parts");
+        infer(PAIRS + "FUN d d ( c , ( ( 1 , 1 ) , 1 ) :: NIL )", 0);
+        infer(PAIRS + "FUN d d ( c , b )", ROOM);
+        infer(PAIRS + "FUN d ( c , b ) :: d", 0);
+        infer(PAIRS + "FUN d " + WORDS_24 + " :: d", ROOM);
+        infer(PAIRS + "FUN d IF TRUE ; d ; FUN e ( c , ( 1 , 1 ) :: NIL )", 0);
+        infer(PAIRS + "FUN d IF TRUE ; d ; FUN e ( c , b )", ROOM);
         Check.sentence("UNIFYING: more than 24 words: only when a variable becomes them");
         infer(PAIRS + "( c , ( c , c ) )", 0);
         infer(PAIRS + "LET d ( c , c ) ; IF TRUE ; d ; d", 0);
